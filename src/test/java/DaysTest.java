@@ -9,10 +9,13 @@ public final class DaysTest {
 
     public static void main(String[] args) {
         residents();
+        fullHousehold();
         incomes();
         noAdult();
         firstStep();
+        eachAmountAlone();
         taper();
+        taperOfAdultAmountAlone();
         taperTakesNothing();
         cap();
         capTies();
@@ -68,6 +71,24 @@ public final class DaysTest {
         Check.same("adults who live nowhere", office.adults(1, 20), 0);
     }
 
+    private static void fullHousehold() {
+        BenefitOffice office = new BenefitOffice();
+        office.addHousehold();
+        for (int i = 0; i < 8; i++) {
+            office.addPerson(i < 3 ? 0 : 999);
+            office.move(i, 0, 0);
+            office.setIncome(i, 999, 300);
+        }
+        office.setRule('m', 999, 0);
+        Check.same("three adults", office.adults(0, 0), 3);
+        Check.same("five children", office.children(0, 0), 5);
+        Check.same("eight incomes", office.incomeOf(0, 300), 8 * 999);
+        Check.same("amounts of eight", amounts(office, 0, 0), "30 28 0 f");
+        office.setRule('t', 0, 0);
+        office.setRule('p', 100, 0);
+        Check.same("amounts of eight with incomes", amounts(office, 0, 300), "0 28 0 t");
+    }
+
     private static void incomes() {
         BenefitOffice office = withFamily();
         office.setIncome(0, 100, 5);
@@ -116,6 +137,23 @@ public final class DaysTest {
         Check.same("no child, no extra", amounts(office, 0, 50), "198 0 98 f");
     }
 
+    /** Each question is asked of a day after another day was looked at. */
+    private static void eachAmountAlone() {
+        BenefitOffice office = withFamily();
+        office.move(0, -1, 100);
+        office.move(1, -1, 100);
+        office.adultAmount(0, 100);
+        Check.same("childAmount alone", office.childAmount(0, 0), 8);
+        office.adultAmount(0, 100);
+        Check.same("housingAmount alone", office.housingAmount(0, 0), 20);
+        office.adultAmount(0, 100);
+        Check.same("reason alone", office.reason(0, 0), 'f');
+        office.housingAmount(0, 100);
+        Check.same("adultAmount alone", office.adultAmount(0, 0), 10);
+        Check.same("nextChange alone", office.nextChange(0, 50), 100);
+        Check.same("entitlement alone", office.entitlement(0, 0), 1140);
+    }
+
     private static void taperedBy(int income, String due) {
         BenefitOffice office = withFamily();
         office.setIncome(0, income, 0);
@@ -145,6 +183,16 @@ public final class DaysTest {
         Check.same("taper over a threshold", amounts(office, 0, 3), "10 8 19 t");
         office.setRule('t', 35, 4);
         Check.same("taper at the threshold", amounts(office, 0, 4), "10 8 20 f");
+    }
+
+    private static void taperOfAdultAmountAlone() {
+        BenefitOffice office = withFamily();
+        office.setRent(0, 0, 0);
+        office.setIncome(0, 25, 0);
+        Check.same("taper without rent", amounts(office, 0, 0), "5 8 0 t");
+        office.setRent(0, 5, 0);
+        office.setIncome(0, 35, 0);
+        Check.same("taper of as much rent as of the adult amount", amounts(office, 0, 0), "5 8 0 t");
     }
 
     private static void taperTakesNothing() {

@@ -14,6 +14,7 @@ public final class PaymentsTest {
         fifthRoundedDown();
         earliestExcessFirst();
         gapsAndDebt();
+        gapBeforeExcess();
         lateHousehold();
         severalHouseholds();
         withoutHouseholds();
@@ -173,6 +174,18 @@ public final class PaymentsTest {
         Check.same("pay when the excess has become a gap", office.pay(), 360 + 132);
         paidFor(office, 0, 300, 360, 360, 360);
         sums(office, 1380, 72, 0, true);
+    }
+
+    private static void gapBeforeExcess() {
+        BenefitOffice office = afterRuns(3);
+        office.setRule('a', 11, 0);
+        office.setRule('a', 8, 30);
+        office.setRule('a', 2, 60);
+        office.setRule('a', 10, 90);
+        sums(office, 900, 0, 30 - 60 - 240, false);
+        Check.same("pay with a gap before the excesses", office.pay(), 300 - 60);
+        paidFor(office, 0, 330, 240, 300 - 30, 300);
+        sums(office, 1140, 60, -210, false);
     }
 
     private static void lateHousehold() {
