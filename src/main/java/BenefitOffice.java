@@ -470,7 +470,8 @@ public final class BenefitOffice {
         private final int valueWithoutFact;
         // What holds on each day, so that asking, which is far more frequent than telling, needs no search.
         private final int[] values = new int[DAYS];
-        private final boolean[] told = new boolean[DAYS];
+        // A bit for each day of each month: with a row of booleans a new office would have twice the elements.
+        private final int[] told = new int[MONTHS];
 
         Timeline(int valueWithoutFact) {
             this.valueWithoutFact = valueWithoutFact;
@@ -482,22 +483,26 @@ public final class BenefitOffice {
         }
 
         boolean isToldFor(int day) {
-            return told[day];
+            return (told[day / DAYS_OF_MONTH] & bitOf(day)) != 0;
         }
 
         void put(int value, int day) {
-            told[day] = true;
+            told[day / DAYS_OF_MONTH] |= bitOf(day);
             holdFrom(value, day);
         }
 
         void remove(int day) {
-            told[day] = false;
+            told[day / DAYS_OF_MONTH] &= ~bitOf(day);
             holdFrom(day > 0 ? values[day - 1] : valueWithoutFact, day);
+        }
+
+        private static int bitOf(int day) {
+            return 1 << day % DAYS_OF_MONTH;
         }
 
         private void holdFrom(int value, int first) {
             values[first] = value;
-            for (int day = first + 1; day < DAYS && !told[day]; day++) {
+            for (int day = first + 1; day < DAYS && !isToldFor(day); day++) {
                 values[day] = value;
             }
         }

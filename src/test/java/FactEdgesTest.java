@@ -115,7 +115,9 @@ public final class FactEdgesTest {
             replaces(kind);
             sameValueAgain(kind);
             everyDay(kind);
+            eachDayFromOn(kind);
             if (!(kind instanceof Rents)) {
+                eachDayExactly(kind);
                 takenBackAndToldAgain(kind);
                 takenBackOnTheEdges(kind);
                 allTakenBack(kind);
@@ -258,6 +260,45 @@ public final class FactEdgesTest {
         }
         Check.same("facts of every day", office.facts(), before + LAST_DAY + (kind instanceof Rule ? 0 : 1));
         holds("a fact for every day", kind, office, due);
+    }
+
+    /** "It holds from this day on, up to the day before the next fact": for each day, asked on all days. */
+    private static void eachDayFromOn(Kind kind) {
+        for (int told = 1; told <= LAST_DAY; told++) {
+            BenefitOffice office = office();
+            kind.tell(office, 2, told);
+            kind.tell(office, 1, 0);
+            int wrong = 0;
+            for (int day = 0; day <= LAST_DAY; day++) {
+                wrong += kind.asked(office, day) == (day < told ? 1 : 2) ? 0 : 1;
+            }
+            Check.same("days on which a fact told for " + told + " does not hold from it on", wrong, 0);
+        }
+    }
+
+    /** "if no such fact is told for exactly this day": for each day, all other days are refused. */
+    private static void eachDayExactly(Kind kind) {
+        int least = kind instanceof Rule ? 1 : 0;
+        for (int told = least; told <= LAST_DAY; told++) {
+            BenefitOffice office = office();
+            kind.tell(office, 3, told);
+            int found = 0;
+            for (int day = least; day <= LAST_DAY; day++) {
+                found += day == told || !isTold(kind, office, day) ? 0 : 1;
+            }
+            Check.same("days on which a fact told for " + told + " is not told", found, 0);
+            Check.same("the fact told for " + told, kind.takeBack(office, told), 3);
+            Check.same("the fact told for " + told + " is gone", isTold(kind, office, told), false);
+        }
+    }
+
+    private static boolean isTold(Kind kind, BenefitOffice office, int day) {
+        try {
+            kind.takeBack(office, day);
+            return true;
+        } catch (NoSuchElementException e) {
+            return false;
+        }
     }
 
     /** A fact that is taken back can be told again. */
